@@ -56,16 +56,15 @@ public final class PackTracer {
     private static final int NOT_QUARANTINED = 12;
 
     private final Tape tape = new Tape();
-    private final Reader reader = new Reader();
-    private final Story story = new Story();
-    private final Guess guess = new Guess();
-    private final Blame blame = new Blame();
-    private Book book = new Book();
-    private Book spare = new Book();
+    private final Book book = new Book();
+    // What is read goes here first, so that a fault leaves the book as it is.
+    private final Book draft = new Book();
+    private final Reader reader = new Reader(tape, draft);
+    private final Story story = new Story(book);
+    private final Guess guess = new Guess(story);
+    private final Blame blame = new Blame(story);
 
     public PackTracer() {
-        book.clear();
-        settle();
     }
 
     // ---- promises 2 to 6: what is told
@@ -86,39 +85,30 @@ public final class PackTracer {
         if (n < 0 || n > tape.size) {
             return MISSING;
         }
-        spare.clear();
-        boolean sound = reader.read(tape, n, spare, false);
-        tape.size = 0;
-        if (!sound) {
-            return NONE;
-        }
-        Book old = book;
-        book = spare;
-        spare = old;
-        book.joinRoads();
-        settle();
-        return reader.lines;
+        draft.clear();
+        boolean sound = reader.read(n, false);
+        return close(sound);
     }
 
     public int tell(int n) {
         if (n < 0 || n > tape.size) {
             return MISSING;
         }
-        int before = book.size;
-        boolean sound = reader.read(tape, n, book, true);
-        tape.size = 0;
-        if (!sound) {
-            book.size = before;
-            return NONE;
-        }
-        settle();
-        return reader.lines;
+        draft.become(book);
+        boolean sound = reader.read(n, true);
+        return close(sound);
     }
 
-    private void settle() {
-        story.settle(book);
-        guess.settle(story);
-        blame.settle(story);
+    private int close(boolean sound) {
+        tape.size = 0;
+        if (!sound) {
+            return NONE;
+        }
+        draft.joinRoads();
+        book.become(draft);
+        story.settle();
+        blame.forget();
+        return reader.lines;
     }
 
     public int fault(int what) {
@@ -470,8 +460,8 @@ public final class PackTracer {
         private int places;
         private int roads;
         private int size;
-        private int unitsFit;
-        private int cartonsFit;
+        private int unitsFit = USUAL_FIT;
+        private int cartonsFit = USUAL_FIT;
         private boolean fitsTold;
 
         private void clear() {
@@ -482,6 +472,22 @@ public final class PackTracer {
             cartonsFit = USUAL_FIT;
             fitsTold = false;
             Arrays.fill(ways, MISSING);
+        }
+
+        private void become(Book other) {
+            System.arraycopy(other.names, 0, names, 0, MOST_PLACES);
+            System.arraycopy(other.ways, 0, ways, 0, MOST_PLACES * MOST_PLACES);
+            System.arraycopy(other.hour, 0, hour, 0, MOST_MESSAGES);
+            System.arraycopy(other.act, 0, act, 0, MOST_MESSAGES);
+            System.arraycopy(other.first, 0, first, 0, MOST_MESSAGES);
+            System.arraycopy(other.second, 0, second, 0, MOST_MESSAGES);
+            System.arraycopy(other.kind, 0, kind, 0, MOST_MESSAGES);
+            places = other.places;
+            roads = other.roads;
+            size = other.size;
+            unitsFit = other.unitsFit;
+            cartonsFit = other.cartonsFit;
+            fitsTold = other.fitsTold;
         }
 
         private boolean hasPlace(int p) {
@@ -605,15 +611,19 @@ public final class PackTracer {
         private final int[] kinds = new int[MOST_BYTES + 1];
         private final int[] starts = new int[MOST_BYTES + 1];
         private final int[] values = new int[MOST_BYTES + 1];
+        private final Tape tape;
         private int size;
-        private Tape tape;
         private int end;
         private int at;
         private int value;
 
-        private void cut(Tape from, int n) {
-            tape = from;
-            end = Math.max(0, Math.min(n, from.size));
+        private Tokens(Tape tape) {
+            this.tape = tape;
+        }
+
+        /** Cuts the first n bytes of the tape. */
+        private void cut(int n) {
+            end = Math.max(0, Math.min(n, tape.size));
             at = 0;
             size = 0;
             skipBlanks();
@@ -704,8 +714,8 @@ public final class PackTracer {
         private static final int FAULT_TOO_MUCH = 2;
         private static final int FAULT_TOLD = 3;
 
-        private final Tokens tokens = new Tokens();
-        private Book book;
+        private final Tokens tokens;
+        private final Book book;
         private int at;
         private int kind;
         private int value;
@@ -713,9 +723,14 @@ public final class PackTracer {
         private int faultAt = NONE;
         private int lines;
 
-        private boolean read(Tape tape, int n, Book into, boolean messagesAlone) {
-            tokens.cut(tape, n);
-            book = into;
+        private Reader(Tape tape, Book book) {
+            tokens = new Tokens(tape);
+            this.book = book;
+        }
+
+        /** Reads the tape's first n bytes: whether they have no fault. */
+        private boolean read(int n, boolean messagesAlone) {
+            tokens.cut(n);
             fault = 0;
             faultAt = NONE;
             lines = 0;
@@ -1307,10 +1322,14 @@ public final class PackTracer {
         private final World world = new World();
         private final World before = new World();
         private final int[] why = new int[MOST_MESSAGES];
-        private Book book;
+        private final Book book;
 
-        private void settle(Book told) {
-            book = told;
+        private Story(Book book) {
+            this.book = book;
+        }
+
+        /** Looks at all messages anew. */
+        private void settle() {
             course.takeHours(book);
             course.arrange();
             world.clear();
@@ -1509,15 +1528,15 @@ public final class PackTracer {
     private static final class Guess {
         private final World world = new World();
         private final Course other = new Course();
-        private Story story;
-        private Book book;
+        private final Story story;
+        private final Book book;
         private int windowFirst;
         private int windowLast;
         private int windowHours;
 
-        private void settle(Story told) {
-            story = told;
-            book = told.book;
+        private Guess(Story story) {
+            this.story = story;
+            book = story.book;
         }
 
         private int placeWithout(int k, int n) {
@@ -1612,8 +1631,8 @@ public final class PackTracer {
         private final World ahead = new World();
         private final World less = new World();
         private final World rest = new World();
-        private Story story;
-        private Course course;
+        private final Book book;
+        private final Course course;
         private boolean foundOne;
         private boolean foundTwo;
         private int one;
@@ -1622,9 +1641,12 @@ public final class PackTracer {
         private int greater;
         private int twoLeave;
 
-        private void settle(Story told) {
-            story = told;
-            course = told.course;
+        private Blame(Story story) {
+            book = story.book;
+            course = story.course;
+        }
+
+        private void forget() {
             foundOne = false;
             foundTwo = false;
         }
@@ -1687,13 +1709,13 @@ public final class PackTracer {
         private int refusedBehind(int p, int already, int enough) {
             int refusals = already;
             for (int q = p + 1; q < course.size && refusals <= enough; q++) {
-                refusals += rest.look(story.book, course.turn[q], course.hourAt(q)) != TAKEN ? 1 : 0;
+                refusals += rest.look(book, course.turn[q], course.hourAt(q)) != TAKEN ? 1 : 0;
             }
             return refusals;
         }
 
         private int refusalAt(int p, World world) {
-            return world.look(story.book, course.turn[p], course.hourAt(p)) != TAKEN ? 1 : 0;
+            return world.look(book, course.turn[p], course.hourAt(p)) != TAKEN ? 1 : 0;
         }
     }
 }
