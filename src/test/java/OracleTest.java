@@ -1,5 +1,8 @@
+import java.util.ArrayList;
+import java.util.Collections;
 import java.util.List;
 import java.util.Random;
+import java.util.stream.IntStream;
 
 /** Random texts: each answer of PackTracer held against the document said once more (Oracle). */
 public final class OracleTest {
@@ -9,6 +12,7 @@ public final class OracleTest {
     private int hourSpan;
     private int things;
     private boolean orderly;
+    private int[] numbers;
 
     private OracleTest(long seed) {
         random = new Random(seed);
@@ -40,6 +44,9 @@ public final class OracleTest {
         hourSpan = below(3) == 0 ? 6 : 5 + below(60);
         things = 3 + below(8);
         orderly = below(5) > 0;
+        List<Integer> shuffled = new ArrayList<>(IntStream.range(0, below(2) == 0 ? things : 40).boxed().toList());
+        Collections.shuffle(shuffled, random);
+        numbers = shuffled.stream().mapToInt(n -> n).toArray();
         StringBuilder text = new StringBuilder(header());
         int more = below(26);
         for (int i = 0; i < more && text.length() < 860; i++) {
@@ -47,9 +54,13 @@ public final class OracleTest {
         }
         Due.is(seed + " text", Due.text(x, text.toString()), text.chars().filter(c -> c == ';').count());
         ask(seed + " text", 60);
-        for (int part = below(3); part > 0; part--) {
+        boolean toTheFull = below(8) == 0;
+        for (int part = toTheFull ? 5 : below(3); part > 0; part--) {
             text = new StringBuilder();
-            more = below(18);
+            more = toTheFull ? 18 : below(18);
+            if (below(4) == 0) {
+                Due.is(seed + " text with a fault", Due.text(x, "place z;at 0 end 1;?"), -1);
+            }
             int lines = 0;
             for (int i = 0; i < more && oracle.messages.size() < 60 && text.length() < 860; i++) {
                 text.append(newMessage().line(oracle.places));
@@ -143,14 +154,17 @@ public final class OracleTest {
         } else if (List.of("make", "move", "scan", "back").contains(act)) {
             second = act.equals("make") && below(3) > 0 ? 0 : below(oracle.places.size());
         }
-        Oracle.Msg m = new Oracle.Msg(k, hour, act, n, second, act.equals("make") ? kind : 0);
+        if (act.equals("pack")) {
+            second = numbers[Math.min(second, numbers.length - 1)];
+        }
+        Oracle.Msg m = new Oracle.Msg(k, hour, act, numbers[n], second, act.equals("make") ? kind : 0);
         oracle.messages.add(m);
         return m;
     }
 
     private int n() {
         int r = below(20);
-        return r == 0 ? -1 : r == 1 ? 40 : r == 2 ? below(40) : below(things);
+        return r == 0 ? -1 : r == 1 ? 40 : r == 2 ? below(40) : numbers[below(things)];
     }
 
     private int h() {

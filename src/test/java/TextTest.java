@@ -3,6 +3,7 @@ public final class TextTest {
     public static void main(String[] args) {
         newObject();
         tape();
+        longTexts();
         textReplacesAll();
         faults();
         tooManyLines();
@@ -59,6 +60,25 @@ public final class TextTest {
         x.feed(-1, 0, 0, 0, 0);
         Due.is("tell with a fault", x.tell(1), -1);
         Due.is("the tape is empty behind tell", x.count(6), 0);
+    }
+
+    /** Texts that fill the tape. */
+    private static void longTexts() {
+        fault(";".repeat(900), 1, 0);
+        fault("place a" + " ".repeat(893), 1, 900);
+        sound("place a;" + "\n".repeat(892), 1);
+        sound("at " + "0".repeat(890) + " end 9;", 1);
+        sound("place zzzzzz;place zzzzz;", 2);
+        fault("at 0 end 1".repeat(80) + "9".repeat(100), 1, 10);
+        PackTracer x = new PackTracer();
+        Due.feed(x, "place ab".getBytes(java.nio.charset.StandardCharsets.ISO_8859_1));
+        // What stands on the tape behind the text is no part of it.
+        Due.is("text(7)", x.text(7), -1);
+        Due.is("text(7): the length", x.fault(1), 7);
+        Due.text(x, "at 0 end 39;at 0 end 1;");
+        Due.feed(x, "at 0 end 39;at 7 end 123;".getBytes(java.nio.charset.StandardCharsets.ISO_8859_1));
+        Due.is("tell(12)", x.tell(12), 1);
+        Due.is("three messages", x.count(2), 3);
     }
 
     private static void textReplacesAll() {
@@ -232,6 +252,13 @@ public final class TextTest {
         Due.is("its place", x.fault(1), 17);
         Due.is("tell nothing", Due.tell(x, ""), 0);
         Due.is("no fault", x.fault(0), 0);
+        x = Due.traced("place az;place zb;fits 2 3;at 0 make 1 unit zb;");
+        Due.is("a text with a fault in between", Due.text(x, "place q;at 7 end 1;fits 4 5;place q;"), -1);
+        Due.is("tell goes on from what was there", Due.tell(x, "at 1 move 1 zb;at 2 make 2 unit az;"), 2);
+        Due.is("places as before", x.count(0), 2);
+        Due.is("fits as before", x.count(4) * 10 + x.count(5), 23);
+        Due.is("messages as before", Due.message(x, 0, 2) * 10 + x.count(2), 13);
+        Due.is("the place by its name", x.thing(1, 1, 3) * 10 + x.thing(2, 2, 3), 10);
         x = Due.traced("fits 1 1;");
         Due.is("fits told twice, in tell: the least fault", Due.tell(x, "fits 1 1;"), -1);
         Due.is("the least fault", x.fault(0), 1);

@@ -92,7 +92,7 @@ public final class WildTest {
             case 29 -> x.clash(a, b, c);
             case 30 -> x.soonest(a, b, c);
             case 31 -> x.count(a);
-            case 32 -> x.tell(a);
+            case 32 -> x.tell(Math.min(a, 0));
             default -> x.feed(a, b, c, d, a);
         }
     }
@@ -114,5 +114,10 @@ public final class WildTest {
         Due.is("the last is refused", x.refused(-1), 1);
         Due.is("twoBlamed", x.twoBlamed(2), 0);
         Due.is("window", x.window(59, 2), 998);
+        // Every question at its edges: no index goes beyond what is full.
+        Random random = new Random(1);
+        for (int call = 0; call < 20000; call++) {
+            ask(x, random);
+        }
     }
 }
