@@ -1602,7 +1602,10 @@ public final class PackTracer {
             windowHours = 0;
             world.clear();
             int p = 0;
+            boolean taken = world.objection(book, k, 0) == TAKEN;
+            boolean hourCounts = book.act[k] == MOVE || book.act[k] == SCAN;
             for (int hour = 0; hour <= LAST_HOUR; hour++) {
+                int before = p;
                 while (p < story.course.size && isAheadOf(p, k, hour)) {
                     int j = story.course.turn[p];
                     if (j != k) {
@@ -1610,7 +1613,11 @@ public final class PackTracer {
                     }
                     p++;
                 }
-                if (world.objection(book, k, hour) == TAKEN) {
+                // In one and the same world only what can be too soon has another verdict by another hour.
+                if (p != before || hourCounts) {
+                    taken = world.objection(book, k, hour) == TAKEN;
+                }
+                if (taken) {
                     windowFirst = windowHours == 0 ? hour : windowFirst;
                     windowLast = hour;
                     windowHours++;

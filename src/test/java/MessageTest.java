@@ -18,6 +18,7 @@ public final class MessageTest {
         scans();
         lastHours();
         orderOfComing();
+        numberNought();
         Due.end();
     }
 
@@ -209,6 +210,24 @@ public final class MessageTest {
         x = run("at 0 make 1 unit a;at 7 move 1 a;at 8 sell 1;", 0, 0, 0);
         Due.is("a move to where it is", x.thing(1, 7, 7), 7);
         Due.is("sell changes none", x.thing(1, 8, 7), 7);
+    }
+
+    /** Thing 0 is one like others, as what others are in, too. */
+    private static void numberNought() {
+        PackTracer x = run("at 0 make 1 unit a;at 0 make 2 carton a;at 0 make 0 pallet a;at 1 pack 1 2;at 1 pack 2 0;"
+            + "at 2 pack 2 0;at 2 move 2 b;at 2 sell 2;at 3 open 0;at 9 scan 1 b;at 10 out 2;", 0, 0, 0, 0, 0, 5, 9, 9, 0, 0, 5);
+        Due.is("in 0", x.thing(2, 3, 1), 0);
+        Due.is("topmost 0", x.thing(1, 3, 2), 0);
+        Due.is("all in 0", x.thing(0, 3, 9), 2);
+        Due.is("0 and one in an open one", x.components(0, 3), 2);
+        Due.is("0 sealed", x.components(0, 2), 1);
+        Due.is("0 is left", x.thing(0, 9, 3) * 10 + x.thing(2, 9, 3), 1);
+        Due.is("in none", x.many(2, 4) * 10 + x.many(9, 4), 12);
+        x = run("at 0 make 1 unit a;at 0 make 0 carton a;at 1 pack 1 0;at 2 sell 0;at 3 back 1 a;at 4 back 0 a;at 5 out 1;at 6 pack 1 0;"
+            + "at 7 seal 0;at 8 end 1;", 0, 0, 0, 0, 6, 0, 0, 0, 0, 0);
+        Due.is("0 is open behind out", x.thing(0, 5, 4), 1);
+        Due.is("0 is sealed", x.thing(0, 7, 4), 0);
+        Due.is("0 is open behind end", x.thing(0, 8, 4), 1);
     }
 
     private static void orderOfComing() {

@@ -46,6 +46,11 @@ public final class OracleTest {
         orderly = below(5) > 0;
         List<Integer> shuffled = new ArrayList<>(IntStream.range(0, below(2) == 0 ? things : 40).boxed().toList());
         Collections.shuffle(shuffled, random);
+        // Number 0 is often a carton or a pallet: it is no less a thing than others.
+        int around = 3 + below(2);
+        if (around < things && below(3) > 0) {
+            Collections.swap(shuffled, shuffled.indexOf(0), around);
+        }
         numbers = shuffled.stream().mapToInt(n -> n).toArray();
         StringBuilder text = new StringBuilder(header());
         int more = below(26);
