@@ -64,19 +64,19 @@ public final class TextTest {
 
     /** Texts that fill the tape. */
     private static void longTexts() {
-        fault(";".repeat(900), 1, 0);
-        fault("place a" + " ".repeat(893), 1, 900);
-        sound("place a;" + "\n".repeat(892), 1);
-        sound("at " + "0".repeat(890) + " end 9;", 1);
-        sound("place zzzzzz;place zzzzz;", 2);
-        fault("at 0 end 1".repeat(80) + "9".repeat(100), 1, 10);
+        Due.fault(";".repeat(900), 1, 0);
+        Due.fault("place a" + " ".repeat(893), 1, 900);
+        Due.sound("place a;" + "\n".repeat(892), 1);
+        Due.sound("at " + "0".repeat(890) + " end 9;", 1);
+        Due.sound("place zzzzzz;place zzzzz;", 2);
+        Due.fault("at 0 end 1".repeat(80) + "9".repeat(100), 1, 10);
         PackTracer x = new PackTracer();
-        Due.feed(x, "place ab".getBytes(java.nio.charset.StandardCharsets.ISO_8859_1));
+        Due.feed(x, Due.bytes("place ab"));
         // What stands on the tape behind the text is no part of it.
         Due.is("text(7)", x.text(7), -1);
         Due.is("text(7): the length", x.fault(1), 7);
         Due.text(x, "at 0 end 39;at 0 end 1;");
-        Due.feed(x, "at 0 end 39;at 7 end 123;".getBytes(java.nio.charset.StandardCharsets.ISO_8859_1));
+        Due.feed(x, Due.bytes("at 0 end 39;at 7 end 123;"));
         Due.is("tell(12)", x.tell(12), 1);
         Due.is("three messages", x.count(2), 3);
     }
@@ -102,98 +102,84 @@ public final class TextTest {
         Due.is("no places", x.count(0), 0);
     }
 
-    private static void fault(String text, int number, int at) {
-        PackTracer x = new PackTracer();
-        Due.is("text(" + text + ")", Due.text(x, text), -1);
-        Due.is("fault(0) of " + text, x.fault(0), number);
-        Due.is("fault(1) of " + text, x.fault(1), at);
-    }
-
-    private static void sound(String text, int lines) {
-        PackTracer x = new PackTracer();
-        Due.is("text(" + text + ")", Due.text(x, text), lines);
-        Due.is("fault(0) of " + text, x.fault(0), 0);
-        Due.is("fault(1) of " + text, x.fault(1), -1);
-    }
-
     private static void faults() {
         String ab = "place a;place b;";
         int n = ab.length();
-        fault(";", 1, 0);
-        fault("a;", 1, 0);
-        fault("5;", 1, 0);
-        fault("make 1 unit a;", 1, 0);
-        fault("places a;", 1, 0);
-        fault("$", 1, 0);
-        fault("\t", 1, 0);
-        fault("place", 1, 5);
-        fault("place a", 1, 7);
-        fault("place a  ", 1, 9);
-        fault("place ;", 1, 6);
-        fault("place 1;", 1, 6);
-        fault("place A;", 1, 6);
-        fault("place aB;", 1, 7);
-        fault("place a1;", 1, 7);
-        fault("place abcdefg;", 1, 6);
-        fault("place a b;", 1, 8);
-        fault("place a;;", 1, 8);
+        Due.fault(";", 1, 0);
+        Due.fault("a;", 1, 0);
+        Due.fault("5;", 1, 0);
+        Due.fault("make 1 unit a;", 1, 0);
+        Due.fault("places a;", 1, 0);
+        Due.fault("$", 1, 0);
+        Due.fault("\t", 1, 0);
+        Due.fault("place", 1, 5);
+        Due.fault("place a", 1, 7);
+        Due.fault("place a  ", 1, 9);
+        Due.fault("place ;", 1, 6);
+        Due.fault("place 1;", 1, 6);
+        Due.fault("place A;", 1, 6);
+        Due.fault("place aB;", 1, 7);
+        Due.fault("place a1;", 1, 7);
+        Due.fault("place abcdefg;", 1, 6);
+        Due.fault("place a b;", 1, 8);
+        Due.fault("place a;;", 1, 8);
         for (String word : "place road fits at make unit carton pallet pack out open seal move scan sell back end free"
             .split(" ")) {
-            fault("place " + word + ";", 1, 6);
+            Due.fault("place " + word + ";", 1, 6);
         }
-        fault("place abcdef;place abcdef;", 3, 19);
-        fault(ab + "road a c 1;", 1, n + 7);
-        fault(ab + "road c a 1;", 1, n + 5);
-        fault(ab + "road a at 1;", 1, n + 7);
-        fault(ab + "road a a 1;", 3, n + 7);
-        fault(ab + "road a b;", 1, n + 8);
-        fault(ab + "road a b 0;", 2, n + 9);
-        fault(ab + "road a b 100;", 2, n + 9);
-        fault(ab + "road a b 99999999999999999999;", 2, n + 9);
-        fault(ab + "road a b 4294967297;", 2, n + 9);
-        fault("road a b 1;place a;place b;", 1, 5);
-        fault("fits 0 1;", 2, 5);
-        fault("fits 21 1;", 2, 5);
-        fault("fits 1 0;", 2, 7);
-        fault("fits 1 21;", 2, 7);
-        fault("fits 1;", 1, 6);
-        fault("fits 1 1;fits", 3, 9);
-        fault("fits 1 1;fits 0 0;", 3, 9);
-        fault("at 1000 end 1;", 2, 3);
-        fault("at a end 1;", 1, 3);
-        fault("at 0 end 40;", 2, 9);
-        fault("at 0 end a;", 1, 9);
-        fault("at 0 end 1", 1, 10);
-        fault("at 0 end 1 2;", 1, 11);
-        fault("at 0 pack 1;", 1, 11);
-        fault("at 0 pack 1 40;", 2, 12);
-        fault("at 0 pack 40 99;", 2, 10);
-        fault("at 0 unit 1;", 1, 5);
-        fault("at 0 at 1;", 1, 5);
-        fault("at 0 a 1;", 1, 5);
-        fault("at 0;", 1, 4);
-        fault(ab + "at 0 make 1 free a;", 1, n + 12);
-        fault(ab + "at 0 make 1 a;", 1, n + 12);
-        fault(ab + "at 0 make 1 unit c;", 1, n + 17);
-        fault(ab + "at 0 make 1 unit;", 1, n + 16);
-        fault(ab + "at 0 make 40 fly c;", 2, n + 10);
-        fault(ab + "at 0 move 1 c;", 1, n + 12);
-        fault(ab + "at 0 scan 1 2;", 1, n + 12);
-        fault(ab + "at 0 back 1;", 1, n + 11);
-        fault(ab + "at 0 sell 1 a;", 1, n + 12);
-        fault("at 0 scan 1 a;place a;", 1, 12);
+        Due.fault("place abcdef;place abcdef;", 3, 19);
+        Due.fault(ab + "road a c 1;", 1, n + 7);
+        Due.fault(ab + "road c a 1;", 1, n + 5);
+        Due.fault(ab + "road a at 1;", 1, n + 7);
+        Due.fault(ab + "road a a 1;", 3, n + 7);
+        Due.fault(ab + "road a b;", 1, n + 8);
+        Due.fault(ab + "road a b 0;", 2, n + 9);
+        Due.fault(ab + "road a b 100;", 2, n + 9);
+        Due.fault(ab + "road a b 99999999999999999999;", 2, n + 9);
+        Due.fault(ab + "road a b 4294967297;", 2, n + 9);
+        Due.fault("road a b 1;place a;place b;", 1, 5);
+        Due.fault("fits 0 1;", 2, 5);
+        Due.fault("fits 21 1;", 2, 5);
+        Due.fault("fits 1 0;", 2, 7);
+        Due.fault("fits 1 21;", 2, 7);
+        Due.fault("fits 1;", 1, 6);
+        Due.fault("fits 1 1;fits", 3, 9);
+        Due.fault("fits 1 1;fits 0 0;", 3, 9);
+        Due.fault("at 1000 end 1;", 2, 3);
+        Due.fault("at a end 1;", 1, 3);
+        Due.fault("at 0 end 40;", 2, 9);
+        Due.fault("at 0 end a;", 1, 9);
+        Due.fault("at 0 end 1", 1, 10);
+        Due.fault("at 0 end 1 2;", 1, 11);
+        Due.fault("at 0 pack 1;", 1, 11);
+        Due.fault("at 0 pack 1 40;", 2, 12);
+        Due.fault("at 0 pack 40 99;", 2, 10);
+        Due.fault("at 0 unit 1;", 1, 5);
+        Due.fault("at 0 at 1;", 1, 5);
+        Due.fault("at 0 a 1;", 1, 5);
+        Due.fault("at 0;", 1, 4);
+        Due.fault(ab + "at 0 make 1 free a;", 1, n + 12);
+        Due.fault(ab + "at 0 make 1 a;", 1, n + 12);
+        Due.fault(ab + "at 0 make 1 unit c;", 1, n + 17);
+        Due.fault(ab + "at 0 make 1 unit;", 1, n + 16);
+        Due.fault(ab + "at 0 make 40 fly c;", 2, n + 10);
+        Due.fault(ab + "at 0 move 1 c;", 1, n + 12);
+        Due.fault(ab + "at 0 scan 1 2;", 1, n + 12);
+        Due.fault(ab + "at 0 back 1;", 1, n + 11);
+        Due.fault(ab + "at 0 sell 1 a;", 1, n + 12);
+        Due.fault("at 0 scan 1 a;place a;", 1, 12);
         // The first along the text counts, whichever its number is.
-        fault("fits 21 1;$", 2, 5);
-        fault("$fits 21 1;", 1, 0);
-        sound("", 0);
-        sound(" \n ", 0);
-        sound("place abcdef;", 1);
-        sound("place a;place aa;place b;", 3);
-        sound(" place\na ;\n place b;road a\nb 99;road b a 1;fits 20 20;", 5);
-        sound("at 999 end 39;at 0 end 0;", 2);
-        sound("at 007 end 0000000000000000000001;", 1);
-        sound("place a;at 0make 1unit a;", 2);
-        sound(ab + "at 0 make 1 unit a;at 0 make 2 carton b;at 0 make 3 pallet a;at 1 pack 1 2;at 2 out 1;"
+        Due.fault("fits 21 1;$", 2, 5);
+        Due.fault("$fits 21 1;", 1, 0);
+        Due.sound("", 0);
+        Due.sound(" \n ", 0);
+        Due.sound("place abcdef;", 1);
+        Due.sound("place a;place aa;place b;", 3);
+        Due.sound(" place\na ;\n place b;road a\nb 99;road b a 1;fits 20 20;", 5);
+        Due.sound("at 999 end 39;at 0 end 0;", 2);
+        Due.sound("at 007 end 0000000000000000000001;", 1);
+        Due.sound("place a;at 0make 1unit a;", 2);
+        Due.sound(ab + "at 0 make 1 unit a;at 0 make 2 carton b;at 0 make 3 pallet a;at 1 pack 1 2;at 2 out 1;"
             + "at 3 open 2;at 3 seal 2;at 3 move 2 a;at 3 scan 2 a;at 3 sell 2;at 3 back 2 b;at 3 end 2;at 3 free 2;", 15);
     }
 
@@ -202,25 +188,25 @@ public final class TextTest {
         for (char c = 'a'; c < 'i'; c++) {
             eight.append("place ").append(c).append(';');
         }
-        sound(eight.toString(), 8);
-        fault(eight + "place i;", 2, 64);
-        fault(eight + "place a;", 2, 64);
-        fault(eight + "place", 2, 64);
+        Due.sound(eight.toString(), 8);
+        Due.fault(eight + "place i;", 2, 64);
+        Due.fault(eight + "place a;", 2, 64);
+        Due.fault(eight + "place", 2, 64);
         StringBuilder roads = new StringBuilder("place a;place b;");
         for (int r = 0; r < 12; r++) {
             roads.append("road a b ").append(r + 1).append(';');
         }
-        sound(roads.toString(), 14);
-        fault(roads + "road a b 1;", 2, roads.length());
-        fault(roads + "road a a 1;", 2, roads.length());
+        Due.sound(roads.toString(), 14);
+        Due.fault(roads + "road a b 1;", 2, roads.length());
+        Due.fault(roads + "road a a 1;", 2, roads.length());
         StringBuilder sixty = new StringBuilder();
         for (int k = 0; k < 60; k++) {
             sixty.append("at 0 end 1;");
         }
-        sound(sixty.toString(), 60);
-        fault(sixty + "at 0 end 1;", 2, 660);
-        fault(sixty + "at x", 2, 660);
-        sound(sixty + "place a;", 61);
+        Due.sound(sixty.toString(), 60);
+        Due.fault(sixty + "at 0 end 1;", 2, 660);
+        Due.fault(sixty + "at x", 2, 660);
+        Due.sound(sixty + "place a;", 61);
         PackTracer x = Due.traced(sixty.toString());
         Due.is("a 61st told", Due.tell(x, "at 0 end 1;"), -1);
         Due.is("a 61st told: fault", x.fault(0), 2);

@@ -13,7 +13,7 @@ public final class WildTest {
             Random random = new Random(seed);
             PackTracer x = new PackTracer();
             for (int round = 0; round < 12; round++) {
-                Due.feed(x, text(random).getBytes(java.nio.charset.StandardCharsets.ISO_8859_1));
+                Due.feed(x, Due.bytes(text(random)));
                 int n = random.nextInt(4) == 0 ? edge(random) : x.count(6);
                 if (random.nextBoolean()) {
                     x.text(n);
