@@ -1,7 +1,8 @@
 /** "==== 2." of the document, its second half: what a taken message does; and promise 7. */
 final class DeedEdges {
     // Unit 1 in carton 2 on pallet 3, unit 4 in carton 2; carton 5 by itself. Messages 0 to 7.
-    private static final String PACKED = "at 0 make 1 unit a;at 0 make 2 carton a;at 0 make 3 pallet a;at 0 make 4 unit a;at 0 make 5 carton a;"
+    private static final String PACKED = "at 0 make 1 unit a;at 0 make 2 carton a;at 0 make 3 pallet a;at 0 make 4 unit a;"
+        + "at 0 make 5 carton a;"
         + "at 1 pack 1 2;at 1 pack 4 2;at 2 pack 2 3;";
 
     private final Sentences doc;
@@ -45,7 +46,8 @@ final class DeedEdges {
     private void terms() {
         doc.says("2", "IN: a THING is in the one into which it was packed last, if it isn't out since;");
         PackTracer x = packed("at 3 out 1;at 4 pack 1 5;at 5 pack 1 2;at 6 out 1;", 0, 0, 5, 0);
-        Due.row("1 is in", new int[] {x.thing(1, 0, 1), x.thing(1, 1, 1), x.thing(1, 3, 1), x.thing(1, 4, 1), x.thing(1, 5, 1), x.thing(1, 6, 1)},
+        Due.row("1 is in", new int[] {x.thing(1, 0, 1), x.thing(1, 1, 1), x.thing(1, 3, 1), x.thing(1, 4, 1),
+            x.thing(1, 5, 1), x.thing(1, 6, 1)},
             -5, 2, -5, 5, 5, -5);
 
         doc.says("2", "what is topmost of it: that one, or the one it is in, and so on.");
@@ -62,15 +64,20 @@ final class DeedEdges {
     }
 
     private void last() {
-        doc.says("2", "LAST of a THING: the HOUR of its own latest make, move, back, out, scan (as topmost, or as it came out by a scan); "
+        doc.says("2", "LAST of a THING: the HOUR of its own latest make, move, back, out, scan (as topmost, "
+            + "or as it came out by a scan); "
             + "pack changes none.");
-        PackTracer x = Due.traced("place a;place b;road a b 5;at 3 make 1 unit a;at 4 make 2 carton a;at 6 move 1 a;at 7 sell 1;at 8 back 1 a;at 9 scan 1 a;"
-            + "at 10 pack 1 2;at 11 scan 1 a;at 12 open 2;at 13 seal 2;at 14 out 1;at 15 pack 1 2;at 20 scan 1 b;at 21 free 1;at 22 make 1 unit a;at 23 scan 1 a;");
+        PackTracer x = Due.traced("place a;place b;road a b 5;at 3 make 1 unit a;at 4 make 2 carton a;at 6 move 1 a;"
+            + "at 7 sell 1;at 8 back 1 a;at 9 scan 1 a;"
+            + "at 10 pack 1 2;at 11 scan 1 a;at 12 open 2;at 13 seal 2;at 14 out 1;at 15 pack 1 2;at 20 scan 1 b;at 21 free 1;"
+                + "at 22 make 1 unit a;at 23 scan 1 a;");
         Due.verdicts(x, "LAST", 0, 0, 0, 0, 0, 0, 0, 0, 0, 0, 0, 0, 0, 12, 1, 10);
-        Due.row("by hours, of the unit", new int[] {x.thing(1, 3, 7), x.thing(1, 6, 7), x.thing(1, 7, 7), x.thing(1, 8, 7), x.thing(1, 9, 7), x.thing(1, 10, 7),
+        Due.row("by hours, of the unit", new int[] {x.thing(1, 3, 7), x.thing(1, 6, 7), x.thing(1, 7, 7), x.thing(1, 8, 7),
+            x.thing(1, 9, 7), x.thing(1, 10, 7),
             x.thing(1, 11, 7), x.thing(1, 13, 7), x.thing(1, 14, 7), x.thing(1, 15, 7), x.thing(1, 20, 7), x.thing(1, 23, 7)},
             3, 6, 6, 8, 9, 4, 11, 11, 14, 11, 20, 20);
-        Due.row("by hours, of the carton", new int[] {x.thing(2, 4, 7), x.thing(2, 10, 7), x.thing(2, 11, 7), x.thing(2, 15, 7), x.thing(2, 23, 7)},
+        Due.row("by hours, of the carton", new int[] {x.thing(2, 4, 7), x.thing(2, 10, 7), x.thing(2, 11, 7),
+            x.thing(2, 15, 7), x.thing(2, 23, 7)},
             4, 4, 11, 11, 11);
     }
 
@@ -137,11 +144,13 @@ final class DeedEdges {
 
     private void endAndFree() {
         doc.says("2", "end: it, and all in it, are ENDED (for ever: IN none, QUARANTINED no more); what it was in is OPEN.");
-        PackTracer x = packed("at 3 scan 1 c;at 3 scan 2 c;at 3 scan 3 c;at 4 end 2;at 5 make 2 carton a;at 5 free 1;", 10, 10, 10, 0, 1, 3);
+        PackTracer x = packed("at 3 scan 1 c;at 3 scan 2 c;at 3 scan 3 c;at 4 end 2;at 5 make 2 carton a;at 5 free 1;", 10,
+            10, 10, 0, 1, 3);
         Due.row("by hour 4", all(x, 4, 3), -4, -4, 0, -4, 0);
         Due.row("for ever", all(x, 999, 3), -4, -4, 0, -4, 0);
         Due.row("by hour 3, quarantined", all(x, 3, 5), 1, 1, 1, 0, 0);
-        Due.row("quarantined, open, in it, all in it", new int[] {x.many(4, 3), x.thing(3, 4, 4), x.thing(3, 4, 8), x.thing(3, 4, 9)}, 1, 1, 0, 0);
+        Due.row("quarantined, open, in it, all in it", new int[] {x.many(4, 3), x.thing(3, 4, 4), x.thing(3, 4, 8),
+            x.thing(3, 4, 9)}, 1, 1, 0, 0);
         x = packed("at 3 end 1;", 0);
         Due.row("the unit alone", all(x, 3, 3), -4, 0, 0, 0, 0);
         Due.row("what it was in alone", all(x, 3, 4), -4, 1, 0, 0, 0);
@@ -184,7 +193,8 @@ final class DeedEdges {
     }
 
     private void scanElsewhere() {
-        doc.says("2", "Elsewhere: is one OPEN of those in which it is (from the inmost on the first), what is in that one on the way to the THING "
+        doc.says("2", "Elsewhere: is one OPEN of those in which it is (from the inmost on the first), "
+            + "what is in that one on the way to the THING "
             + "is out of it, at the PLACE of the scan (all in it with it), LAST is this HOUR;");
         PackTracer x = packed("at 3 open 3;at 9 scan 1 b;", 0, 0);
         Due.row("open pallet, in", all(x, 9, 1), 2, -5, -5, 2, -5);
@@ -236,13 +246,17 @@ final class DeedEdges {
     }
 
     private void message() {
-        doc.says("Promise 7", "Of MESSAGE k, what 0 its HOUR, 1 which (0 make, 1 pack, 2 out, 3 open, 4 seal, 5 move, 6 scan, 7 sell, 8 back, 9 end, "
+        doc.says("Promise 7", "Of MESSAGE k, what 0 its HOUR, 1 which (0 make, 1 pack, 2 out, 3 open, 4 seal, 5 move, 6 scan, "
+            + "7 sell, 8 back, 9 end, "
             + "10 free), 2 its first number, 3 its second one, or its PLACE (-2 without), 4 why it is REFUSED (0: TAKEN), "
             + "5 as the how-manieth it is looked at (from 0 on), 6 whether it is LATE (1, 0).");
-        PackTracer x = Due.traced("place a;place b;at 999 make 0 pallet b;at 5 make 39 carton a;at 999 pack 39 0;at 0 out 39;at 5 open 39;at 6 seal 39;"
+        PackTracer x = Due.traced("place a;place b;at 999 make 0 pallet b;at 5 make 39 carton a;at 999 pack 39 0;at 0 out 39;"
+            + "at 5 open 39;at 6 seal 39;"
             + "at 6 move 39 b;at 7 scan 39 b;at 7 sell 39;at 998 back 39 b;at 999 end 0;at 999 free 39;");
-        int[][] due = {{999, 0, 0, 1, 0, 8, 0}, {5, 0, 39, 0, 0, 1, 1}, {999, 1, 39, 0, 7, 9, 0}, {0, 2, 39, -2, 2, 0, 1}, {5, 3, 39, -2, 0, 2, 1},
-            {6, 4, 39, -2, 0, 3, 1}, {6, 5, 39, 1, 10, 4, 1}, {7, 6, 39, 1, 10, 5, 1}, {7, 7, 39, -2, 11, 6, 1}, {998, 8, 39, 1, 6, 7, 1},
+        int[][] due = {{999, 0, 0, 1, 0, 8, 0}, {5, 0, 39, 0, 0, 1, 1}, {999, 1, 39, 0, 7, 9, 0}, {0, 2, 39, -2, 2, 0, 1}, {5,
+            3, 39, -2, 0, 2, 1},
+            {6, 4, 39, -2, 0, 3, 1}, {6, 5, 39, 1, 10, 4, 1}, {7, 6, 39, 1, 10, 5, 1}, {7, 7, 39, -2, 11, 6, 1}, {998, 8, 39,
+                1, 6, 7, 1},
             {999, 9, 0, -2, 0, 10, 0}, {999, 10, 39, -2, 0, 11, 0}};
         for (int k = 0; k < due.length; k++) {
             for (int what = 0; what < 7; what++) {

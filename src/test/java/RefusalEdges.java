@@ -2,7 +2,8 @@
 final class RefusalEdges {
     private static final String LAND = "place a;place b;place c;road a b 5;";
     // Messages 0 to 4: a unit 1, a carton 2, a pallet 3, another unit 4 and another carton 5.
-    private static final String FIVE = "at 0 make 1 unit a;at 0 make 2 carton a;at 0 make 3 pallet a;at 0 make 4 unit a;at 0 make 5 carton a;";
+    private static final String FIVE = "at 0 make 1 unit a;at 0 make 2 carton a;at 0 make 3 pallet a;at 0 make 4 unit a;"
+        + "at 0 make 5 carton a;";
 
     private final Sentences doc;
 
@@ -57,7 +58,8 @@ final class RefusalEdges {
         // 2 ahead of 3.
         five("at 1 end 2;at 2 pack 9 2;at 2 pack 2 9;", 0, 2, 2);
         // 3 ahead of 4, 5, 6, 7, 8, 10, 11, 12.
-        five("at 1 end 2;at 2 pack 3 2;at 2 out 2;at 2 open 2;at 2 seal 2;at 2 move 2 c;at 2 scan 2 c;at 2 free 2;at 2 sell 2;at 2 back 2 a;",
+        five("at 1 end 2;at 2 pack 3 2;at 2 out 2;at 2 open 2;at 2 seal 2;at 2 move 2 c;at 2 scan 2 c;at 2 free 2;at 2 sell 2;"
+            + "at 2 back 2 a;",
             0, 3, 3, 3, 3, 3, 3, 3, 3, 3);
         five("at 1 pack 1 2;at 1 end 5;at 2 pack 1 5;", 0, 0, 3);
         five("at 1 sell 1;at 1 end 5;at 2 pack 1 5;", 0, 0, 3);
@@ -77,7 +79,8 @@ final class RefusalEdges {
         // 6 ahead of 7, 8, 9, 10, 11.
         five("at 1 sell 2;at 5 move 1 b;at 6 pack 1 2;", 0, 0, 6);
         five("fits 1 1;at 1 pack 1 2;at 2 sell 2;at 3 pack 4 2;", 0, 0, 6);
-        five("at 1 open 2;at 1 sell 2;at 1 sell 1;at 1 sell 5;at 2 open 2;at 2 open 1;at 2 seal 5;at 2 seal 1;", 0, 0, 0, 0, 6, 6, 6, 6);
+        five("at 1 open 2;at 1 sell 2;at 1 sell 1;at 1 sell 5;at 2 open 2;at 2 open 1;at 2 seal 5;at 2 seal 1;", 0, 0, 0, 0,
+            6, 6, 6, 6);
         five("at 1 pack 1 2;at 2 sell 2;at 3 move 1 a;at 3 sell 1;at 3 back 1 a;", 0, 0, 6, 6, 6);
         five("at 1 sell 1;at 2 move 1 c;at 2 move 1 b;at 2 scan 1 c;at 2 scan 1 b;", 0, 6, 6, 6, 6);
         five("at 1 sell 1;at 2 scan 1 a;at 3 sell 1;at 3 pack 1 2;", 0, 6, 6, 6);
@@ -90,7 +93,8 @@ final class RefusalEdges {
 
     private void made() {
         doc.says("2", "1 make: there was one of that number (also an ENDED one); it is QUARANTINED then (if it isn't ENDED).");
-        PackTracer x = told("at 0 make 0 unit a;at 1 make 0 unit a;at 2 make 0 carton b;at 3 end 0;at 4 make 0 unit a;", 0, 1, 1, 0, 1);
+        PackTracer x = told("at 0 make 0 unit a;at 1 make 0 unit a;at 2 make 0 carton b;at 3 end 0;at 4 make 0 unit a;", 0, 1,
+            1, 0, 1);
         Due.row("0 by hour 0, 1, 2", new int[] {x.thing(0, 0, 5), x.thing(0, 1, 5), x.thing(0, 2, 5)}, 0, 1, 1);
         Due.row("0 is as it was made", new int[] {x.thing(0, 2, 0), x.thing(0, 2, 3), x.thing(0, 2, 7)}, 0, 0, 0);
         Due.row("none is quarantined", new int[] {x.many(3, 3), x.many(4, 3), x.thing(0, 4, 0)}, 0, 0, -4);
@@ -100,7 +104,8 @@ final class RefusalEdges {
         Due.is("as it was by hour 2", x.many(2, 3), 0);
 
         doc.says("2", "2 no THING of a number (its first, its second) was made.");
-        x = told("at 0 make 1 unit a;at 0 pack 1 2;at 0 pack 2 1;at 0 pack 0 39;at 0 out 0;at 0 open 0;at 0 seal 0;at 0 move 0 a;at 0 scan 0 a;"
+        x = told("at 0 make 1 unit a;at 0 pack 1 2;at 0 pack 2 1;at 0 pack 0 39;at 0 out 0;at 0 open 0;at 0 seal 0;"
+            + "at 0 move 0 a;at 0 scan 0 a;"
             + "at 0 sell 0;at 0 back 0 a;at 0 end 0;at 0 free 0;at 1 make 0 unit a;", 0, 2, 2, 2, 2, 2, 2, 2, 2, 2, 2, 2, 2, 0);
         Due.is("nothing but two units", x.many(1, 0), 2);
         Due.is("a scan of none quarantines none", x.many(1, 3), 0);
@@ -108,7 +113,8 @@ final class RefusalEdges {
 
     private void ended() {
         doc.says("2", "3 one of these is ENDED.");
-        PackTracer x = five("at 1 end 1;at 2 pack 1 2;at 2 out 1;at 2 open 1;at 2 seal 1;at 2 move 1 a;at 2 scan 1 a;at 2 sell 1;at 2 back 1 a;"
+        PackTracer x = five("at 1 end 1;at 2 pack 1 2;at 2 out 1;at 2 open 1;at 2 seal 1;at 2 move 1 a;at 2 scan 1 a;"
+            + "at 2 sell 1;at 2 back 1 a;"
             + "at 2 end 1;at 2 free 1;", 0, 3, 3, 3, 3, 3, 3, 3, 3, 3, 3);
         Due.is("it alone", x.many(2, 2), 1);
         five("at 1 end 2;at 2 pack 1 2;at 2 pack 2 3;", 0, 3, 3);
@@ -117,7 +123,8 @@ final class RefusalEdges {
 
     private void kinds() {
         doc.says("2", "4 pack: the second isn't of the next KIND (a unit into a carton, a carton onto a pallet).");
-        String six = "at 0 make 0 unit a;at 0 make 1 unit a;at 0 make 10 carton a;at 0 make 11 carton a;at 0 make 20 pallet a;at 0 make 21 pallet a;";
+        String six = "at 0 make 0 unit a;at 0 make 1 unit a;at 0 make 10 carton a;at 0 make 11 carton a;at 0 make 20 pallet a;"
+            + "at 0 make 21 pallet a;";
         int[][] due = {{4, 0, 4}, {4, 4, 0}, {4, 4, 4}};
         for (int first = 0; first < 3; first++) {
             for (int second = 0; second < 3; second++) {
@@ -139,8 +146,10 @@ final class RefusalEdges {
         doc.says("2", "6 pack, out, open, seal, move, scan, sell: what is topmost of it (of pack: of one of both) is SOLD; "
             + "back: it isn't topmost and SOLD.");
         String sold = "at 1 pack 1 2;at 1 pack 2 3;at 2 sell 3;";
-        five(sold + "at 3 pack 4 2;at 3 pack 5 3;at 3 out 1;at 3 out 2;at 3 open 2;at 3 open 3;at 3 seal 3;at 3 move 3 a;at 3 move 1 a;"
-            + "at 3 scan 1 a;at 3 scan 2 a;at 3 scan 3 a;at 3 sell 1;at 3 sell 3;", 0, 0, 0, 6, 6, 6, 6, 6, 6, 6, 6, 6, 6, 6, 6, 6, 6);
+        five(sold + "at 3 pack 4 2;at 3 pack 5 3;at 3 out 1;at 3 out 2;at 3 open 2;at 3 open 3;at 3 seal 3;at 3 move 3 a;"
+            + "at 3 move 1 a;"
+            + "at 3 scan 1 a;at 3 scan 2 a;at 3 scan 3 a;at 3 sell 1;at 3 sell 3;", 0, 0, 0, 6, 6, 6, 6, 6, 6, 6, 6, 6, 6, 6,
+                6, 6, 6);
         five("at 1 sell 1;at 2 pack 1 2;at 3 sell 2;at 3 pack 4 2;", 0, 6, 0, 6);
         five(sold + "at 3 back 1 a;at 3 back 2 a;at 3 back 4 a;at 3 back 3 c;at 3 back 3 c;", 0, 0, 0, 6, 6, 6, 0, 6);
         five("at 1 pack 1 2;at 2 back 1 a;at 2 back 2 a;", 0, 6, 6);
@@ -163,15 +172,18 @@ final class RefusalEdges {
 
     private void openOrNot() {
         doc.says("2", "8 open: it is OPEN, or a unit; seal: it isn't OPEN.");
-        five("at 1 open 1;at 1 seal 1;at 1 open 2;at 1 open 2;at 1 seal 2;at 1 seal 2;at 1 open 3;at 1 open 3;at 1 seal 3;at 1 seal 3;",
+        five("at 1 open 1;at 1 seal 1;at 1 open 2;at 1 open 2;at 1 seal 2;at 1 seal 2;at 1 open 3;at 1 open 3;at 1 seal 3;"
+            + "at 1 seal 3;",
             8, 8, 0, 8, 0, 8, 0, 8, 0, 8);
         // One that is in another, too; one that is open as something came out.
-        five("at 1 pack 2 3;at 1 pack 1 2;at 2 open 2;at 2 open 2;at 2 seal 2;at 3 out 1;at 3 open 2;at 3 seal 2;", 0, 0, 0, 8, 0, 0, 8, 0);
+        five("at 1 pack 2 3;at 1 pack 1 2;at 2 open 2;at 2 open 2;at 2 seal 2;at 3 out 1;at 3 open 2;at 3 seal 2;", 0, 0, 0,
+            8, 0, 0, 8, 0);
     }
 
     private void topmostAlone() {
         doc.says("2", "9 move, sell, back: it is IN one.");
-        five("at 1 pack 1 2;at 1 pack 2 3;at 1 move 1 a;at 1 move 2 a;at 1 sell 1;at 1 sell 2;at 1 move 3 a;at 1 sell 3;at 2 back 2 a;at 2 back 3 a;",
+        five("at 1 pack 1 2;at 1 pack 2 3;at 1 move 1 a;at 1 move 2 a;at 1 sell 1;at 1 sell 2;at 1 move 3 a;at 1 sell 3;"
+            + "at 2 back 2 a;at 2 back 3 a;",
             0, 0, 9, 9, 9, 9, 0, 0, 6, 0);
         five("at 1 pack 1 2;at 2 out 1;at 2 move 1 a;at 2 sell 1;", 0, 0, 0, 0);
     }
@@ -183,13 +195,15 @@ final class RefusalEdges {
         told("at 7 make 1 unit a;at 7 move 1 a;at 7 scan 1 a;at 7 make 2 unit c;at 7 scan 2 c;at 7 move 2 c;", 0, 0, 0, 0, 0, 0);
         told("at 0 make 1 unit a;at 999 move 1 c;at 999 scan 1 c;", 0, 10, 10);
 
-        doc.says("2", "SOON to a PLACE: what is topmost is elsewhere, and from its LAST on there are fewer HOURS than the shortest way by roads "
+        doc.says("2", "SOON to a PLACE: what is topmost is elsewhere, "
+            + "and from its LAST on there are fewer HOURS than the shortest way by roads "
             + "(or there is no way).");
         // Topmost is asked, not the unit: it was scanned later than the carton, ahead of being packed.
         five("at 3 scan 1 a;at 3 pack 1 2;at 4 scan 1 b;at 5 scan 1 b;", 0, 0, 10, 0);
         five("at 3 scan 2 a;at 3 pack 1 2;at 7 scan 1 b;at 8 scan 1 b;", 0, 0, 10, 0);
         // The shortest way, over another place.
-        PackTracer x = Due.traced("place a;place b;place c;place d;road a b 2;road b c 3;road a c 6;at 0 make 1 unit a;at 4 move 1 c;at 5 move 1 c;"
+        PackTracer x = Due.traced("place a;place b;place c;place d;road a b 2;road b c 3;road a c 6;at 0 make 1 unit a;"
+            + "at 4 move 1 c;at 5 move 1 c;"
             + "at 99 move 1 d;at 99 scan 1 d;at 99 scan 1 c;");
         Due.verdicts(x, "by the shortest way", 0, 10, 0, 10, 10, 0);
     }
@@ -200,11 +214,13 @@ final class RefusalEdges {
         // The second, or what is in it, may be quarantined.
         five("at 1 scan 2 c;at 2 pack 1 2;at 3 free 2;at 4 scan 1 c;at 5 pack 4 2;", 10, 0, 0, 10, 0);
         // Something in it, at any depth; nothing around it.
-        five("at 1 pack 1 2;at 2 scan 1 c;at 3 pack 2 3;at 3 sell 2;at 4 free 1;at 5 pack 2 3;at 6 scan 1 c;at 7 sell 3;at 8 free 1;at 9 sell 3;",
+        five("at 1 pack 1 2;at 2 scan 1 c;at 3 pack 2 3;at 3 sell 2;at 4 free 1;at 5 pack 2 3;at 6 scan 1 c;at 7 sell 3;"
+            + "at 8 free 1;at 9 sell 3;",
             0, 10, 11, 11, 0, 0, 10, 11, 0, 0);
         five("at 1 pack 1 2;at 2 scan 2 c;at 3 out 1;at 4 sell 1;at 4 sell 2;", 0, 10, 0, 0, 11);
         // open, seal, move, scan, out, back, end are not asked for it.
-        five("at 1 pack 1 2;at 1 scan 1 c;at 1 scan 2 c;at 2 open 2;at 2 seal 2;at 2 move 2 a;at 2 scan 2 a;at 2 out 1;at 3 end 1;at 3 end 2;",
+        five("at 1 pack 1 2;at 1 scan 1 c;at 1 scan 2 c;at 2 open 2;at 2 seal 2;at 2 move 2 a;at 2 scan 2 a;at 2 out 1;"
+            + "at 3 end 1;at 3 end 2;",
             0, 10, 10, 0, 0, 0, 0, 0, 0, 0);
         five("at 1 sell 1;at 2 scan 1 a;at 3 back 1 a;", 0, 6, 0);
 

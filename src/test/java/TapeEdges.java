@@ -84,6 +84,18 @@ final class TapeEdges {
         Due.is("the first 16 of 40 bytes", x.text(16), 2);
         Due.is("the tape is empty then", x.count(6), 0);
         Due.is("text(1)", x.text(1), -2);
+        // A word or a number goes no further than the text, whatever stands behind it on the tape.
+        String longer = "place abcdef;place abc;at 123 end 39;";
+        int[] cuts = {6, 7, 10, 12, 22, 26, 27, 28, 34, 35, 36};
+        for (int cut : cuts) {
+            Due.feed(x, Due.bytes(longer));
+            Due.is("cut at " + cut, x.text(cut), -1);
+            Due.row("its fault", new int[] {x.fault(0), x.fault(1)}, 1, cut);
+        }
+        Due.feed(x, Due.bytes("place abcdefghi;"));
+        Due.row("six letters of nine", new int[] {x.text(12), x.fault(0), x.fault(1)}, -1, 1, 12);
+        Due.feed(x, Due.bytes("at 0 end 399;"));
+        Due.row("39 of 399", new int[] {x.text(11), x.fault(0), x.fault(1)}, -1, 1, 11);
         Due.feed(x, Due.bytes("place a;"));
         Due.is("all of the tape", x.text(20), 1);
         Due.feed(x, Due.bytes("place a;"));
@@ -101,7 +113,8 @@ final class TapeEdges {
         doc.says("Promise 3", "NONE with a FAULT, all else stays;");
         x = Due.traced(SOME);
         List<Integer> before = Due.everything(x);
-        String[] faults = {"?", "place a;place a;", "place q;road q q 1;", "fits 3 3;fits 3 3;", "place z;road a b 3;", "at 0 end 1;at 0 end 40;",
+        String[] faults = {"?", "place a;place a;", "place q;road q q 1;", "fits 3 3;fits 3 3;", "place z;road a b 3;",
+            "at 0 end 1;at 0 end 40;",
             "place x;place y;road x y 7;fits 9 9;at 0 make 5 unit x;at 1 end 5;place"};
         for (String fault : faults) {
             Due.is("text(" + fault + ")", Due.text(x, fault), -1);
@@ -128,7 +141,8 @@ final class TapeEdges {
     }
 
     private void tell() {
-        doc.says("Promise 4", "The TAPE's first n bytes (it is empty then) are a TEXT of MESSAGES alone (another LINE: FAULT 1 at its word), "
+        doc.says("Promise 4", "The TAPE's first n bytes (it is empty then) are a TEXT of MESSAGES alone (another LINE: "
+            + "FAULT 1 at its word), "
             + "which come behind those there are: how many LINES;");
         PackTracer x = Due.traced(SOME);
         Due.feed(x, Due.bytes("at 3 make 4 unit c;at 0 end 4;?"));
@@ -156,11 +170,14 @@ final class TapeEdges {
         Due.is("a late one", Due.tell(x, "at 6 make 1 unit a;"), 1);
         Due.verdicts(x, "a late one", 0, 0, 1);
         Due.row("to blame", new int[] {x.blamed(0), x.blamed(1), x.twoBlamed(0), x.twoBlamed(1), x.twoBlamed(2)}, 0, 1, 0, 1, 0);
+        Due.is("two more", Due.tell(x, "at 1 end 3;at 2 end 3;"), 2);
+        Due.row("to blame", new int[] {x.blamed(0), x.blamed(1), x.twoBlamed(0), x.twoBlamed(1), x.twoBlamed(2)}, 3, 2, 3, 4, 1);
 
         doc.says("Promise 4", "NONE with a FAULT, all else stays (none of it comes);");
         x = Due.traced(SOME);
         List<Integer> before = Due.everything(x);
-        String[] faults = {"?", "at 0 end 1;at 0 end 40;", "at 0 make 3 unit a;at 1 end 3", "at 0 make 3 unit a;place d;", "at 0 move 1 nowhe;"};
+        String[] faults = {"?", "at 0 end 1;at 0 end 40;", "at 0 make 3 unit a;at 1 end 3", "at 0 make 3 unit a;place d;",
+            "at 0 move 1 nowhe;"};
         for (String fault : faults) {
             Due.is("tell(" + fault + ")", Due.tell(x, fault), -1);
             Due.is("all else stays", Due.everything(x).equals(before) ? 1 : 0, 1);
@@ -181,7 +198,8 @@ final class TapeEdges {
     }
 
     private void fault() {
-        doc.says("Promise 5", "Of the latest text(), tell() that was not -2, what 0: its FAULT (0), 1: its place (NONE without).");
+        doc.says("Promise 5", "Of the latest text(), tell() that was not -2, what 0: its FAULT (0), 1: "
+            + "its place (NONE without).");
         PackTracer x = new PackTracer();
         Due.text(x, "place a;place a;");
         Due.row("of text", new int[] {x.fault(0), x.fault(1)}, 3, 14);
@@ -222,6 +240,14 @@ final class TapeEdges {
         Due.row("round about", new int[] {x.hours(0, 3), x.hours(3, 0), x.hours(1, 4), x.hours(4, 2)}, 117, 117, 207, 198);
         for (int p = 0; p < 8; p++) {
             Due.is("to itself", x.hours(p, p), 0);
+        }
+        for (int over = 0; over < 3; over++) {
+            // Three places in a row, the one in the middle told first, second, third.
+            String[] order = {"b a c", "a b c", "a c b"};
+            String[] names = order[over].split(" ");
+            x = Due.traced("place " + names[0] + ";place " + names[1] + ";place " + names[2] + ";road a b 4;road b c 5;");
+            Due.row("over place " + over, new int[] {x.hours((over + 1) % 3, (over + 2) % 3),
+                x.hours((over + 2) % 3, (over + 1) % 3)}, 9, 9);
         }
         x = Due.traced("place a;place b;place c;place d;place e;place f;place g;place h;"
             + "road h g 99;road g f 99;road f e 99;road e d 99;road d c 99;road c b 99;road b a 99;");

@@ -65,8 +65,10 @@ final class TermEdges {
 
         doc.says("Terms", "LINE: place W | road W W N | fits N N | at N make N KIND W | at N ACT. KIND: unit | carton | pallet. "
             + "ACT: pack N N | out N | open N | seal N | move N W | scan N W | sell N | back N W | end N | free N.");
-        PackTracer x = Due.sound(AB + "road a b 1;fits 1 2;at 0 make 0 unit a;at 1 make 1 carton b;at 2 make 2 pallet a;at 3 pack 3 4;"
-            + "at 4 out 5;at 5 open 6;at 6 seal 7;at 7 move 8 b;at 8 scan 9 b;at 9 sell 10;at 10 back 11 b;at 11 end 12;at 12 free 13;", 17);
+        PackTracer x = Due.sound(AB + "road a b 1;fits 1 2;at 0 make 0 unit a;at 1 make 1 carton b;at 2 make 2 pallet a;"
+            + "at 3 pack 3 4;"
+            + "at 4 out 5;at 5 open 6;at 6 seal 7;at 7 move 8 b;at 8 scan 9 b;at 9 sell 10;at 10 back 11 b;at 11 end 12;"
+                + "at 12 free 13;", 17);
         Due.row("kinds", new int[] {x.thing(0, 999, 0), x.thing(1, 999, 0), x.thing(2, 999, 0)}, 0, 1, 2);
         int[] acts = {0, 0, 0, 1, 2, 3, 4, 5, 6, 7, 8, 9, 10};
         int[] firsts = {0, 1, 2, 3, 5, 6, 7, 8, 9, 10, 11, 12, 13};
@@ -108,7 +110,8 @@ final class TermEdges {
             Due.is("place of the word " + n, x.thing(n, 0, 3), n);
         }
 
-        doc.says("Terms", "none of the language's (place, road, fits, at, make, unit, carton, pallet, pack, out, open, seal, move, scan, "
+        doc.says("Terms", "none of the language's (place, road, fits, at, make, unit, carton, pallet, pack, out, open, seal, "
+            + "move, scan, "
             + "sell, back, end, free).");
         List<String> language = List.of(LANGUAGE.split(" "));
         for (String word : language) {
@@ -190,17 +193,20 @@ final class TermEdges {
     }
 
     private void roads() {
-        doc.says("Terms", "road, at most 12: HOURS 1 .. 99 between two PLACES told ahead, either way (of several of two the fewest count).");
+        doc.says("Terms", "road, at most 12: HOURS 1 .. 99 between two PLACES told ahead, "
+            + "either way (of several of two the fewest count).");
         Due.is("twelve roads", Due.sound(roadsOf(12), 14).count(1), 12);
         Due.is("the twelfth counts", Due.traced(roadsOf(12)).hours(0, 1), 9);
         Due.fault(roadsOf(12) + "road a b 1;", 2, roadsOf(12).length());
         PackTracer x = Due.sound(AB + "place c;place d;road a b 1;road c d 99;", 6);
-        Due.row("least and greatest, either way", new int[] {x.hours(0, 1), x.hours(1, 0), x.hours(2, 3), x.hours(3, 2)}, 1, 1, 99, 99);
+        Due.row("least and greatest, either way", new int[] {x.hours(0, 1), x.hours(1, 0), x.hours(2, 3), x.hours(3, 2)}, 1,
+            1, 99, 99);
         Due.fault(AB + "road a b 0;", 2, N + 9);
         Due.fault(AB + "road a b 100;", 2, N + 9);
         Due.fault("road a b 1;" + AB, 1, 5);
         Due.fault("place a;road a b 1;place b;", 1, 15);
-        String[] several = {"road a b 9;road a b 4;road a b 7;", "road a b 4;road b a 9;", "road b a 9;road a b 4;", "road b a 4;road a b 9;"};
+        String[] several = {"road a b 9;road a b 4;road a b 7;", "road a b 4;road b a 9;", "road b a 9;road a b 4;",
+            "road b a 4;road a b 9;"};
         for (String roads : several) {
             x = Due.traced(AB + roads);
             Due.row(roads, new int[] {x.hours(0, 1), x.hours(1, 0)}, 4, 4);
@@ -229,10 +235,13 @@ final class TermEdges {
         Due.fault("fits 1 21;", 2, 7);
         Due.row("usual", new int[] {verdictOnPack("", "unit", "carton", 9), verdictOnPack("", "unit", "carton", 10),
             verdictOnPack("", "carton", "pallet", 9), verdictOnPack("", "carton", "pallet", 10)}, 0, 7, 0, 7);
-        Due.row("least", new int[] {verdictOnPack("fits 1 20;", "unit", "carton", 0), verdictOnPack("fits 1 20;", "unit", "carton", 1),
+        Due.row("least", new int[] {verdictOnPack("fits 1 20;", "unit", "carton", 0),
+            verdictOnPack("fits 1 20;", "unit", "carton", 1),
             verdictOnPack("fits 20 1;", "carton", "pallet", 0), verdictOnPack("fits 20 1;", "carton", "pallet", 1)}, 0, 7, 0, 7);
-        Due.row("greatest", new int[] {verdictOnPack("fits 20 1;", "unit", "carton", 19), verdictOnPack("fits 20 1;", "unit", "carton", 20),
-            verdictOnPack("fits 1 20;", "carton", "pallet", 19), verdictOnPack("fits 1 20;", "carton", "pallet", 20)}, 0, 7, 0, 7);
+        Due.row("greatest", new int[] {verdictOnPack("fits 20 1;", "unit", "carton", 19),
+            verdictOnPack("fits 20 1;", "unit", "carton", 20),
+            verdictOnPack("fits 1 20;", "carton", "pallet", 19), verdictOnPack("fits 1 20;", "carton", "pallet", 20)}, 0, 7,
+                0, 7);
         Due.fault("fits 1 1;fits 1 1;", 3, 9);
     }
 
@@ -249,6 +258,7 @@ final class TermEdges {
         PackTracer x = Due.sound("place a;at 0 make 0 unit a;at 999 make 39 carton a;at 999 pack 0 39;at 999 end 0;", 5);
         Due.verdicts(x, "least and greatest", 0, 0, 0, 0);
         Due.row("hours", new int[] {x.message(0, 0), x.message(1, 0)}, 0, 999);
+        ends();
         Due.fault("at 1000 end 0;", 2, 3);
         Due.fault("at 0 end 40;", 2, 9);
         Due.fault("at 0 pack 0 40;", 2, 12);
@@ -262,9 +272,75 @@ final class TermEdges {
         }
         Due.is("no message 60", Due.message(x, 60, 0), Due.INDEX);
         Due.fault(messagesOf(61), 2, messagesOf(60).length());
+        full();
         x = Due.traced(messagesOf(59));
         Due.is("the sixtieth is told", Due.tell(x, "at 1 end 2;"), 1);
         Due.row("it comes behind", new int[] {x.message(59, 0), x.message(59, 2), x.message(58, 0)}, 1, 2, 41);
+    }
+
+    /** Eight places, twelve roads, forty things, sixty messages: every question is answered, the last of each, too. */
+    private static void full() {
+        PackTracer x = Due.traced(eightPlaces() + "road a b 1;road b c 1;road c d 1;road d e 1;road e f 1;road f g 1;road g h 1;"
+            + "road a c 9;road a d 9;road a e 9;road a f 9;road a h 9;fits 20 20;");
+        for (int n = 0; n < 40; n++) {
+            Due.tell(x, "at 0 make " + n + (n < 20 ? " unit h;" : n < 39 ? " carton h;" : " pallet h;"));
+        }
+        for (int n = 0; n < 18; n++) {
+            Due.tell(x, "at 1 pack " + n + " 20;");
+        }
+        Due.tell(x, "at 2 pack 20 39;at 999 scan 0 a;");
+        Due.row("counts", new int[] {x.count(0), x.count(1), x.count(2), x.count(4), x.count(5)}, 8, 12, 60, 20, 20);
+        Due.is("all is answered", Due.everything(x).size() > 0 ? 1 : 0, 1);
+        Due.row("the last message", new int[] {x.message(59, 0), x.message(59, 5), x.message(59, 4), x.changed(59), x.cause(59)},
+            999, 59, 0, 20, -3);
+        Due.row("the last thing", new int[] {x.thing(39, 999, 3), x.thing(39, 999, 8), x.thing(39, 999, 9), x.inside(39, 999, 18),
+            x.there(0, 999, 19), x.there(7, 999, 19), x.trail(39, 1, 1), x.met(39, 0, 19), x.wereIn(39, 0, 999, 18), x.most(39),
+            x.still(39, 999), x.travelled(39), x.dwelt(39, 7), x.dwelt(39, 0)}, 0, 1, 19, 20, 39, 38, 999, 39, 20, 19, 2, 7, 999, 0);
+        Due.row("what would be", new int[] {x.known(60, 39), x.without(59, 39), x.needs(59, 0), x.ifAt(59, 2, -1), x.ifAt(59, 2, 39),
+            x.ifSwapped(58, 59, -1), x.window(59, 0), x.window(59, 1), x.window(59, 2)}, 0, 7, 0, 1, 7, 2, 7, 999, 993);
+        Due.row("of all", new int[] {x.flow(7, 0), x.components(7, 999), x.lost(999, 999, 0), x.lost(999, 0, 39), x.busy(7, 0),
+            x.soonest(39, 999, 7), x.clash(39, 0, 0), x.blamed(1), x.twoBlamed(2), x.refused(0)},
+            20, 20, 18, 39, 40, 1006, -2, 0, 0, 60);
+    }
+
+    /** Things 0 and 39 are things like others: in each other, around each other, quarantined, sold, ended. */
+    private static void ends() {
+        int[][] numbers = {{0, 39}, {39, 0}};
+        for (int[] two : numbers) {
+            String u = " " + two[0];
+            String c = " " + two[1];
+            PackTracer x = Due.traced(AB + "road a b 5;at 0 make" + u + " unit a;at 0 make" + c + " carton a;at 1 pack" + u
+                + c + ";at 1 pack" + u + c + ";at 1 out" + c + ";"
+                + "at 1 move" + u + " b;at 1 sell" + u + ";at 2 scan" + u + " b;at 2 sell" + c + ";at 3 free" + u
+                    + ";at 4 sell" + c + ";at 5 back" + u + " a;at 5 back" + c + " b;"
+                + "at 6 open" + c + ";at 11 scan" + u + " a;at 12 out" + u + ";at 13 move" + u + " a;at 13 seal" + c + ";");
+            Due.verdicts(x, "two things", 0, 0, 0, 5, 5, 9, 9, 10, 11, 0, 0, 6, 0, 0, 0, 5, 0, 0);
+            int unit = two[0];
+            int carton = two[1];
+            Due.row("by 1", new int[] {x.thing(unit, 1, 1), x.thing(unit, 1, 2), x.thing(carton, 1, 9),
+                x.inside(carton, 1, 0), x.components(0, 1), x.components(0, 0), x.many(1, 4)},
+                carton, carton, 1, unit, 1, 2, 1);
+            Due.row("by 2", new int[] {x.thing(unit, 2, 5), x.many(2, 3), x.clash(unit, 0, 2)}, 1, 1, 7);
+            Due.row("by 6", new int[] {x.components(1, 5), x.components(1, 6), x.there(1, 6, 0), x.there(1, 6, 1)}, 1, 2, 0, 39);
+            Due.row("by 11", new int[] {x.thing(unit, 11, 1), x.thing(unit, 11, 3), x.thing(carton, 11, 3)}, -5, 0, 1);
+            Due.row("together", new int[] {x.met(unit, 0, 0), x.met(unit, 0, 1), x.met(carton, 0, 0), x.met(carton, 0, 1),
+                x.wereIn(carton, 0, 999, 0), x.most(carton)}, 0, 39, 0, 39, unit, 1);
+            Due.row("changed", new int[] {x.changed(0), x.changed(10), x.changed(12), x.flow(0, -3), x.flow(-3, 1),
+                x.flow(1, 0)}, 1, 2, 2, 2, 2, 1);
+            x = Due.traced("place a;at 0 make" + u + " unit a;at 0 make" + c + " carton a;at 1 pack" + u + c + ";at 2 end" + u
+                + ";");
+            Due.row("open as it ended", new int[] {x.thing(carton, 1, 4), x.thing(carton, 2, 4), x.thing(carton, 2, 9)}, 0, 1, 0);
+            x = Due.traced("place a;at 0 make" + u + " unit a;at 0 make" + c + " carton a;at 1 pack" + u + c + ";at 2 out" + u
+                + ";");
+            Due.row("open as it came out", new int[] {x.thing(carton, 1, 4), x.thing(carton, 2, 4), x.thing(carton, 2, 9)}, 0,
+                1, 0);
+            x = Due.traced("place a;at 0 make" + u + " unit a;at 0 make" + c + " carton a;at 1 pack" + u + c + ";at 2 end" + c
+                + ";");
+            PackTracer y = Due.traced(AB + "road a b 5;at 0 make" + u + " unit a;at 0 make" + c + " carton a;at 1 pack" + u + c
+                + ";at 9 scan" + u + " b;");
+            Due.row("sealed together", new int[] {y.thing(unit, 9, 1), y.thing(unit, 9, 3), y.thing(carton, 9, 3)}, carton, 1, 1);
+            Due.row("ended together", new int[] {x.many(2, 2), x.there(-4, 2, 0), x.there(-4, 2, 1)}, 2, 0, 39);
+        }
     }
 
     private void firstFault() {
@@ -298,7 +374,8 @@ final class TermEdges {
 
     private void noTokens() {
         doc.says("Terms", "1 a TOKEN that is none (a word of more letters, too: at its first)");
-        String[] none = {"?", "A", "\t", "\r", "\u0000", "\u0080", "\u00ff", ":", ",", "abcdefg", "pallets", "abcdefghijklmnopqrstuvwxyz"};
+        String[] none = {"?", "A", "\t", "\r", "\u0000", "\u0080", "\u00ff", ":", ",", "abcdefg", "pallets",
+            "abcdefghijklmnopqrstuvwxyz"};
         for (String token : none) {
             Due.fault(token, 1, 0);
             Due.fault("place " + token + ";", 1, 6);
@@ -316,7 +393,8 @@ final class TermEdges {
     private void misplaced() {
         doc.says("Terms", "or can't stand there (a W that is no PLACE, but in place; the length, if more must come).");
         String[] forms = {"place c ;", "road a b 5 ;", "fits 3 4 ;", "at 9 make 7 unit a ;", "at 9 pack 7 8 ;", "at 9 out 7 ;",
-            "at 9 open 7 ;", "at 9 seal 7 ;", "at 9 move 7 a ;", "at 9 scan 7 a ;", "at 9 sell 7 ;", "at 9 back 7 a ;", "at 9 end 7 ;",
+            "at 9 open 7 ;", "at 9 seal 7 ;", "at 9 move 7 a ;", "at 9 scan 7 a ;", "at 9 sell 7 ;", "at 9 back 7 a ;",
+                "at 9 end 7 ;",
             "at 9 free 7 ;"};
         for (String form : forms) {
             Due.sound(AB + form, 3);
@@ -372,7 +450,8 @@ final class TermEdges {
             Due.fault("at 0 end 40" + more + ";", 2, 9);
             Due.fault("at 0 pack 1 40" + more + ";", 2, 12);
         }
-        String[] wraps = {"256", "257", "65536", "65537", "4294967295", "4294967296", "4294967297", "18446744073709551616", "18446744073709551617"};
+        String[] wraps = {"256", "257", "65536", "65537", "4294967295", "4294967296", "4294967297", "18446744073709551616",
+            "18446744073709551617"};
         for (String number : wraps) {
             Due.fault(AB + "road a b " + number + ";", 2, N + 9);
             Due.fault("fits " + number + " 1;", 2, 5);
@@ -392,7 +471,8 @@ final class TermEdges {
     }
 
     private void toldAlready() {
-        doc.says("Terms", "3 told already: a PLACE (at its W), fits (at that word); a road from a PLACE to itself (at its second W).");
+        doc.says("Terms", "3 told already: a PLACE (at its W), fits (at that word);"
+            + " a road from a PLACE to itself (at its second W).");
         Due.fault("place abc;place abc;", 3, 16);
         Due.fault("place a;place b;place  a;", 3, 23);
         Due.fault("place a;place a", 3, 14);
