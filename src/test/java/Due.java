@@ -2,6 +2,8 @@ import java.nio.charset.StandardCharsets;
 import java.util.ArrayList;
 import java.util.List;
 import java.util.NoSuchElementException;
+import java.util.Random;
+import java.util.SplittableRandom;
 import java.util.function.IntUnaryOperator;
 
 /** What the tests share: texts as calls of feed, answers held against what is due. */
@@ -72,6 +74,11 @@ final class Due {
         if (wrong != 0) {
             System.exit(1);
         }
+    }
+
+    /** The first numbers of Random are much alike for seeds that follow each other: these are not. */
+    static Random random(long seed) {
+        return new Random(new SplittableRandom(seed).nextLong());
     }
 
     static byte[] bytes(String text) {

@@ -15,7 +15,7 @@ public final class OracleTest {
     private int[] numbers;
 
     private OracleTest(long seed) {
-        random = new Random(seed);
+        random = Due.random(seed);
     }
 
     public static void main(String[] args) {
@@ -41,7 +41,7 @@ public final class OracleTest {
 
     private void run(long seed) {
         setting();
-        hourSpan = below(3) == 0 ? 6 : 5 + below(60);
+        hourSpan = below(3) == 0 ? 6 : below(8) == 0 ? 940 : 5 + below(60);
         things = 3 + below(8);
         orderly = below(5) > 0;
         List<Integer> shuffled = new ArrayList<>(IntStream.range(0, below(2) == 0 ? things : 40).boxed().toList());
@@ -79,7 +79,8 @@ public final class OracleTest {
     private final StringBuilder roadLines = new StringBuilder();
 
     private void setting() {
-        int n = 1 + below(4);
+        int n = below(6) == 0 ? 8 : 1 + below(4);
+        int longest = below(5) == 0 ? 99 : 9;
         for (int p = 0; p < n; p++) {
             oracle.places.add("" + (char) ('a' + p));
         }
@@ -89,10 +90,10 @@ public final class OracleTest {
                 w[a][b] = a == b ? 0 : 1000000;
             }
         }
-        for (int r = n == 1 ? 0 : below(2 * n); r > 0; r--) {
+        for (int r = n == 1 ? 0 : Math.min(12, below(2 * n)); r > 0; r--) {
             int a = below(n);
             int b = (a + 1 + below(n - 1)) % n;
-            int h = 1 + below(9);
+            int h = 1 + below(longest);
             w[a][b] = Math.min(w[a][b], h);
             w[b][a] = w[a][b];
             oracle.roads++;

@@ -10,7 +10,7 @@ public final class WildTest {
 
     public static void main(String[] args) {
         for (int seed = 1; seed <= 300; seed++) {
-            Random random = new Random(seed);
+            Random random = Due.random(seed);
             PackTracer x = new PackTracer();
             for (int round = 0; round < 12; round++) {
                 Due.feed(x, Due.bytes(text(random)));
